@@ -1,0 +1,122 @@
+import java.io.IOException;
+import java.lang.reflect.Constructor;
+import java.lang.reflect.Field;
+import java.lang.reflect.Method;
+import java.lang.reflect.Modifier;
+import java.nio.file.Files;
+import java.nio.file.Path;
+import java.util.Set;
+import java.util.TreeSet;
+import java.util.regex.Matcher;
+import java.util.regex.Pattern;
+
+/** The public face, and the rules of LANGUAGE.md that a look at the class and its text can tell. */
+public final class LanguageTest {
+    private static final String[] FACE = {
+        "int aqueduct(int)", "int spring(int,int,int)", "int castle(int,int,int)", "int person()",
+        "int death(int,int,int)", "int nozzle(int,int,int,int)", "int shut(int)",
+        "int tap(int,int,int,int)", "int repair(int,int,int)", "int go(int)",
+        "int feed(int,int,int,int,int)", "int end(int)", "int laws()", "int fault()",
+        "int law(int,int)", "int lives(int,int,int)", "int gets(int,int,int)",
+        "int at(int,int,int,int)", "int dry(int,int,int)", "int found(int,int)",
+        "int best(int,int,int,int)", "long rent(int,int)", "long fines(int)", "int dead(int,int)",
+        "int count(int)", "int status()",
+    };
+    private static int wrong = 0;
+
+    private static void due(String what, boolean holds) {
+        if (!holds) {
+            wrong++;
+            System.out.println("does not hold: " + what);
+        }
+    }
+
+    private static String signature(Method m) {
+        StringBuilder s = new StringBuilder(m.getReturnType().getName()).append(' ').append(m.getName()).append('(');
+        for (int i = 0; i < m.getParameterCount(); i++) {
+            s.append(i == 0 ? "" : ",").append(m.getParameterTypes()[i].getName());
+        }
+        return s.append(')').toString();
+    }
+
+    private static void face() {
+        Set<String> open = new TreeSet<>();
+        Set<String> names = new TreeSet<>();
+        for (Method m : WaterOffice.class.getDeclaredMethods()) {
+            if (!Modifier.isPrivate(m.getModifiers())) {
+                open.add(signature(m));
+                names.add(m.getName());
+                due(m + " is public alone", m.getModifiers() == Modifier.PUBLIC);
+            }
+        }
+        due("the methods are the document's: " + open, open.equals(new TreeSet<>(Set.of(FACE))));
+        for (Field f : WaterOffice.class.getDeclaredFields()) {
+            due(f + " is private", Modifier.isPrivate(f.getModifiers()) || f.getName().equals("NONE"));
+        }
+        Constructor<?>[] made = WaterOffice.class.getDeclaredConstructors();
+        due("one constructor", made.length == 1 && made[0].getParameterCount() == 0
+                && made[0].getModifiers() == Modifier.PUBLIC);
+        due("public and final", WaterOffice.class.getModifiers() == (Modifier.PUBLIC | Modifier.FINAL));
+        inside(names);
+    }
+
+    private static void inside(Set<String> names) {
+        Class<?>[] inside = WaterOffice.class.getDeclaredClasses();
+        due("at most twelve classes", inside.length < 12);
+        for (Class<?> c : inside) {
+            due(c + " is static and private", Modifier.isStatic(c.getModifiers()) && Modifier.isPrivate(c.getModifiers()));
+            int fields = 0;
+            for (Field f : c.getDeclaredFields()) {
+                fields += Modifier.isStatic(f.getModifiers()) ? 0 : 1;
+            }
+            due(c + " has at most twenty fields", fields <= 20);
+            for (Method m : c.getDeclaredMethods()) {
+                due(m + " has a name of its own", !names.contains(m.getName()));
+                due(m + " has at most seven parameters", m.getParameterCount() <= 7);
+            }
+        }
+    }
+
+    private static void text() throws IOException {
+        String text = Files.readString(Path.of("src/main/java/WaterOffice.java"));
+        due("no byte above 126", text.chars().allMatch(c -> c == '\n' || c >= 32 && c <= 126));
+        String code = text.replaceAll("(?s)/\\*.*?\\*/", "").replaceAll("//[^\n]*", "");
+        for (String word : new String[] {"throw", "throws", "try", "catch", "finally", "synchronized", "assert",
+            "import", "package", "java", "Exact", "hashCode", "toString", "protected", "Object", "System.out"}) {
+            due("no " + word, !Pattern.compile("\\b" + Pattern.quote(word) + "\\b").matcher(code).find());
+        }
+        due("no lambda", !code.contains("->"));
+        due("no method reference", !code.contains("::"));
+        due("no loop without an end", !code.contains("while (true)") && !code.contains("for (;"));
+        rowsAreMadeOnce(code);
+        methodsAreShort(text);
+    }
+
+    /** The room is shared by all calls of a run: nothing is made but in fields and constructors. */
+    private static void rowsAreMadeOnce(String code) {
+        for (String line : code.split("\n")) {
+            if (line.contains("new ")) {
+                due("made once: " + line.strip(), line.strip().matches("(final \\S+ )?\\w+ = new .*;"));
+            }
+        }
+    }
+
+    private static void methodsAreShort(String text) {
+        Matcher m = Pattern.compile("(?m)^( {4,8})(?!\\s|/|\\}|private static final class)[^;=\n]*\\)[^;]*?\\{\n(?s:.*?)^\\1\\}$").matcher(text);
+        int methods = 0;
+        while (m.find()) {
+            methods++;
+            due("at most sixty lines: " + m.group().strip().split("\n")[0], m.group().split("\n").length <= 60);
+        }
+        due("methods were found: " + methods, methods > 60);
+    }
+
+    public static void main(String[] args) throws IOException {
+        face();
+        text();
+        System.out.println(wrong == 0 ? "all rules hold" : wrong + " rules do not hold");
+        if (wrong != 0) {
+            System.exit(1);
+        }
+    }
+}
