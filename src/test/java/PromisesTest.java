@@ -383,6 +383,8 @@ public final class PromisesTest {
         badText("from 5 rent 1; ", 15);
         badText("from 5 rent 1 from 5 rent 1", 14);
         badText("from 5 rent -1", 12);
+        badText("from 5 rentz 1", 7);
+        badText("from 5 renta 1", 7);
         badText("from\t5 rent 1", 4);
         badText("from 5 rent 1\0", 13);
         badText("from 5 rent 1;rent 1", 14);
