@@ -6,8 +6,11 @@ import java.util.regex.Pattern;
 
 /** Long runs of calls, each answer held against a slow, literal second writing of the document. */
 public final class AgainstPlainOfficeTest {
-    private static final int RUNS = 200;
+    private static final int RUNS = 500;
+    /** What an object answers behind its 512th call is free. */
     private static final int CALLS = 512;
+    /** The dearest step puts a text of 400 bytes on the tape. */
+    private static final int CALLS_OF_A_STEP = 30;
 
     public static void main(String[] args) {
         int wrong = 0;
@@ -37,6 +40,7 @@ public final class AgainstPlainOfficeTest {
         final int span;
         final int water;
         boolean good = true;
+        int calls = 0;
 
         Run(int seed, int[] refused) {
             this.seed = seed;
@@ -47,24 +51,23 @@ public final class AgainstPlainOfficeTest {
         }
 
         boolean go() {
-            for (int i = 0; i < CALLS && good; i++) {
-                call(seed % 4 == 1 && i < 60 ? random.nextInt(8) : random.nextInt(34));
-                check(i, "status()", x.status(), p.status);
+            for (int step = 0; good && calls <= CALLS - CALLS_OF_A_STEP; step++) {
+                call(seed % 4 == 1 && step < 60 ? random.nextInt(8) : random.nextInt(34));
                 refused[-p.status]++;
+                if (random.nextInt(3) == 0) {
+                    due("status()", x.status(), p.status);
+                }
             }
             return good;
         }
 
-        void check(int i, String call, long got, long want) {
+        void due(String call, long got, long want) {
+            calls++;
             if (got != want) {
                 good = false;
-                System.out.println("run " + seed + ", call " + i + ": " + call + " answered " + got
+                System.out.println("run " + seed + ", call " + calls + ": " + call + " answered " + got
                         + ", due is " + want);
             }
-        }
-
-        void due(String call, long got, long want) {
-            check(-1, call, got, want);
         }
 
         /** Most times a number of 0 .. count - 1, now and then one outside. */

@@ -11,7 +11,7 @@ import java.util.regex.Matcher;
 import java.util.regex.Pattern;
 
 /** The public face, and the rules of LANGUAGE.md that a look at the class and its text can tell. */
-public final class LanguageTest {
+public final class LanguageTest extends Check {
     private static final String[] FACE = {
         "int aqueduct(int)", "int spring(int,int,int)", "int castle(int,int,int)", "int person()",
         "int death(int,int,int)", "int nozzle(int,int,int,int)", "int shut(int)",
@@ -64,7 +64,8 @@ public final class LanguageTest {
         Class<?>[] inside = WaterOffice.class.getDeclaredClasses();
         due("at most twelve classes", inside.length < 12);
         for (Class<?> c : inside) {
-            due(c + " is static and private", Modifier.isStatic(c.getModifiers()) && Modifier.isPrivate(c.getModifiers()));
+            due(c + " is static, private or package-visible", Modifier.isStatic(c.getModifiers())
+                    && !Modifier.isPublic(c.getModifiers()) && !Modifier.isProtected(c.getModifiers()));
             int fields = 0;
             for (Field f : c.getDeclaredFields()) {
                 fields += Modifier.isStatic(f.getModifiers()) ? 0 : 1;
@@ -82,23 +83,42 @@ public final class LanguageTest {
         due("no byte above 126", text.chars().allMatch(c -> c == '\n' || c >= 32 && c <= 126));
         String code = text.replaceAll("(?s)/\\*.*?\\*/", "").replaceAll("//[^\n]*", "");
         for (String word : new String[] {"throw", "throws", "try", "catch", "finally", "synchronized", "assert",
-            "import", "package", "java", "Exact", "hashCode", "toString", "protected", "Object", "System.out"}) {
+            "package", "hashCode", "protected", "Object", "System.out", "Random", "Thread"}) {
             due("no " + word, !Pattern.compile("\\b" + Pattern.quote(word) + "\\b").matcher(code).find());
         }
-        due("no lambda", !code.contains("->"));
+        due("none that ends in Exact", !Pattern.compile("\\w+Exact\\b").matcher(code).find());
+        due("no other library", !Pattern.compile("\\bjava(x?)\\.(?!util\\.(ArrayList|List|Arrays|Iterator)\\b)")
+                .matcher(code).find());
+        due("no lambda", !Pattern.compile("(?m)^(?!\\s*(case|default)\\b).*->").matcher(code).find());
         due("no method reference", !code.contains("::"));
         due("no loop without an end", !code.contains("while (true)") && !code.contains("for (;"));
-        rowsAreMadeOnce(code);
         methodsAreShort(text);
     }
 
-    /** The room is shared by all calls of a run: nothing is made but in fields and constructors. */
-    private static void rowsAreMadeOnce(String code) {
-        for (String line : code.split("\n")) {
-            if (line.contains("new ")) {
-                due("made once: " + line.strip(), line.strip().matches("(final \\S+ )?\\w+ = new .*;"));
-            }
+    /** All calls of a run share a room of 7.3 million elements: the dearest calls have to fit in. */
+    private static void room() {
+        com.sun.management.ThreadMXBean threads =
+                (com.sun.management.ThreadMXBean) java.lang.management.ManagementFactory.getThreadMXBean();
+        long before = threads.getCurrentThreadAllocatedBytes();
+        WaterOffice x = new WaterOffice();
+        x.aqueduct(100000);
+        for (int i = 0; i < 12; i++) {
+            x.castle(i == 0 ? 0 : 100, 1000, 1);
         }
+        x.person();
+        for (int i = 0; i < 80; i++) {
+            x.nozzle(i % 12, 1000, i % 3, 0);
+        }
+        laws(x, "from 0 rent 1; from 0 fine 1");
+        goTo(x, 200);
+        for (int i = 0; i < 100; i++) {
+            x.best(i % 12, 10, 0, 191);
+            x.rent(0, i);
+            x.fines(i % 12);
+            x.found(i % 12, i);
+        }
+        long bytes = threads.getCurrentThreadAllocatedBytes() - before;
+        due("512 calls make less than the room holds, not " + bytes + " bytes", bytes < 4 * 7300000L);
     }
 
     private static void methodsAreShort(String text) {
@@ -108,12 +128,13 @@ public final class LanguageTest {
             methods++;
             due("at most sixty lines: " + m.group().strip().split("\n")[0], m.group().split("\n").length <= 60);
         }
-        due("methods were found: " + methods, methods > 60);
+        due("methods were found: " + methods, methods > 26);
     }
 
     public static void main(String[] args) throws IOException {
         face();
         text();
+        room();
         System.out.println(wrong == 0 ? "all rules hold" : wrong + " rules do not hold");
         if (wrong != 0) {
             System.exit(1);

@@ -1,67 +1,7 @@
 /** For each promise of the document: ordinary inputs, its edges, wrong inputs. */
-public final class PromisesTest {
-    private static final int NONE = WaterOffice.NONE;
-    private static final int BIG = Integer.MAX_VALUE;
-    private static final int SMALL = Integer.MIN_VALUE;
-    private static int wrong = 0;
-    private static String part = "";
-
-    private static void due(String call, long got, long want) {
-        if (got != want) {
-            wrong++;
-            System.out.println(part + ": " + call + " answered " + got + ", due is " + want);
-        }
-    }
-
-    /** Puts a text on the tape, which has to be empty. */
-    private static void write(WaterOffice x, String text) {
-        int[] numbers = new int[5];
-        for (int i = 0; i < text.length(); i += 20) {
-            for (int j = 0; j < 5; j++) {
-                numbers[j] = 0;
-                for (int k = 0; k < 4; k++) {
-                    int place = i + j * 4 + k;
-                    numbers[j] = numbers[j] << 8 | (place < text.length() ? text.charAt(place) : 'z');
-                }
-            }
-            due("feed", x.feed(numbers[0], numbers[1], numbers[2], numbers[3], numbers[4]), i + 20);
-        }
-        due("end", x.end(text.length()), text.length());
-    }
-
-    private static int laws(WaterOffice x, String text) {
-        write(x, text);
-        return x.laws();
-    }
-
-    private static void goTo(WaterOffice x, int year) {
-        while (x.count(0) < year) {
-            x.go(Math.min(50, year - x.count(0)));
-        }
-    }
-
-    private static void text(String text, int want) {
-        WaterOffice x = new WaterOffice();
-        due("laws of \"" + text + "\"", laws(x, text), want);
-        due("fault of \"" + text + "\"", x.fault(), NONE);
-        due("count(8) of \"" + text + "\"", x.count(8), want);
-        due("status of \"" + text + "\"", x.status(), 0);
-        due("count(9) of \"" + text + "\"", x.count(9), 0);
-    }
-
-    private static void badText(String text, int place) {
-        WaterOffice x = new WaterOffice();
-        laws(x, "from 3 rent 4");
-        due("laws of \"" + text + "\"", laws(x, text), -6);
-        due("fault of \"" + text + "\"", x.fault(), place);
-        due("status of \"" + text + "\"", x.status(), -6);
-        due("count(8) of \"" + text + "\"", x.count(8), 1);
-        due("count(9) of \"" + text + "\"", x.count(9), 0);
-        due("law(3, 2) behind \"" + text + "\"", x.law(3, 2), 4);
-    }
-
+public final class PromisesTest extends Check {
     private static void newObject() {
-        part = "promise 1";
+        part("promise 1");
         WaterOffice x = new WaterOffice();
         for (int what = 0; what <= 10; what++) {
             due("count(" + what + ")", x.count(what), 0);
@@ -75,7 +15,7 @@ public final class PromisesTest {
     }
 
     private static void aqueducts() {
-        part = "promise 2";
+        part("promise 2");
         WaterOffice x = new WaterOffice();
         due("below 0", x.aqueduct(-1), -1);
         due("above", x.aqueduct(100001), -1);
@@ -91,7 +31,7 @@ public final class PromisesTest {
     }
 
     private static void springs() {
-        part = "promise 3";
+        part("promise 3");
         WaterOffice x = new WaterOffice();
         x.aqueduct(10);
         x.aqueduct(20);
@@ -118,7 +58,7 @@ public final class PromisesTest {
     }
 
     private static void castles() {
-        part = "promise 4";
+        part("promise 4");
         WaterOffice x = new WaterOffice();
         due("none yet", x.castle(0, 1, 0), -2);
         due("castle none yet", x.castle(100, 1, 0), -2);
@@ -143,7 +83,7 @@ public final class PromisesTest {
     }
 
     private static void persons() {
-        part = "promise 5";
+        part("promise 5");
         WaterOffice x = new WaterOffice();
         for (int i = 0; i < 40; i++) {
             due("person", x.person(), i);
@@ -155,7 +95,7 @@ public final class PromisesTest {
     }
 
     private static void deaths() {
-        part = "promises 6, 25";
+        part("promises 6, 25");
         WaterOffice x = new WaterOffice();
         x.person();
         x.person();
@@ -185,7 +125,7 @@ public final class PromisesTest {
     }
 
     private static void nozzles() {
-        part = "promise 7";
+        part("promise 7");
         WaterOffice x = new WaterOffice();
         x.aqueduct(100);
         x.castle(0, 100, 0);
@@ -219,7 +159,7 @@ public final class PromisesTest {
     }
 
     private static void shutting() {
-        part = "promise 8";
+        part("promise 8");
         WaterOffice x = new WaterOffice();
         x.aqueduct(100);
         x.castle(0, 100, 0);
@@ -244,7 +184,7 @@ public final class PromisesTest {
     }
 
     private static void taps() {
-        part = "promise 9";
+        part("promise 9");
         WaterOffice x = new WaterOffice();
         x.aqueduct(100);
         x.castle(0, 100, 0);
@@ -269,7 +209,7 @@ public final class PromisesTest {
     }
 
     private static void repairs() {
-        part = "promise 10";
+        part("promise 10");
         WaterOffice x = new WaterOffice();
         x.aqueduct(100);
         x.castle(0, 80, 0);
@@ -292,7 +232,7 @@ public final class PromisesTest {
     }
 
     private static void going() {
-        part = "promise 11";
+        part("promise 11");
         WaterOffice x = new WaterOffice();
         due("0", x.go(0), -1);
         due("51", x.go(51), -1);
@@ -309,7 +249,7 @@ public final class PromisesTest {
     }
 
     private static void feeding() {
-        part = "promises 12, 13";
+        part("promises 12, 13");
         WaterOffice x = new WaterOffice();
         due("end of the empty tape", x.end(0), 0);
         due("end above", x.end(1), NONE);
@@ -335,15 +275,15 @@ public final class PromisesTest {
     }
 
     private static void goodTexts() {
-        part = "promise 14";
-        text(" ", 0);
-        text("   ", 0);
-        text("from 0 heirs 0", 1);
-        text("  from0to200first grants  ;from 200 close 2  ", 2);
-        text("from000000000000000005to005rent000000000000000100000", 1);
-        text("from 7 to 7 first fountains;from 7 first baths;from 7 first grants", 3);
-        text("from 1 rent 100000;from 1 fine 100000;from 1 most 100000;from 1 heirs 100000", 4);
-        text("from0rent0;".repeat(29) + "from0rent0", 30);
+        part("promise 14");
+        goodText(" ", 0);
+        goodText("   ", 0);
+        goodText("from 0 heirs 0", 1);
+        goodText("  from0to200first grants  ;from 200 close 2  ", 2);
+        goodText("from000000000000000005to005rent000000000000000100000", 1);
+        goodText("from 7 to 7 first fountains;from 7 first baths;from 7 first grants", 3);
+        goodText("from 1 rent 100000;from 1 fine 100000;from 1 most 100000;from 1 heirs 100000", 4);
+        goodText("from0rent0;".repeat(29) + "from0rent0", 30);
         WaterOffice x = new WaterOffice();
         laws(x, "from 0 rent 5; from 0 close 1");
         due("laws are replaced", laws(x, "from 0 fine 6"), 1);
@@ -355,7 +295,7 @@ public final class PromisesTest {
     }
 
     private static void badTexts() {
-        part = "promises 14, 15";
+        part("promises 14, 15");
         badText("", 0);
         badText("x", 0);
         badText(" From", 1);
@@ -399,7 +339,7 @@ public final class PromisesTest {
     }
 
     private static void law() {
-        part = "promise 16";
+        part("promise 16");
         WaterOffice x = new WaterOffice();
         laws(x, "from 5 to 9 first grants; from 6 first baths; from 7 to 7 first fountains;"
                 + "from 3 heirs 4; from 3 to 3 heirs 5; from 2 rent 6; from 1 to 2 fine 7;"
@@ -430,7 +370,7 @@ public final class PromisesTest {
     }
 
     private static void living() {
-        part = "promise 17";
+        part("promise 17");
         WaterOffice x = new WaterOffice();
         x.aqueduct(100);
         x.castle(0, 100, 0);
@@ -459,7 +399,7 @@ public final class PromisesTest {
     }
 
     private static void getting() {
-        part = "promise 18";
+        part("promise 18");
         WaterOffice x = new WaterOffice();
         x.aqueduct(11);
         x.castle(0, 100, 0);
@@ -495,7 +435,7 @@ public final class PromisesTest {
     }
 
     private static void flows() {
-        part = "promise 19";
+        part("promise 19");
         WaterOffice x = new WaterOffice();
         x.aqueduct(1000);
         x.castle(0, 900, 7);
@@ -539,7 +479,7 @@ public final class PromisesTest {
     }
 
     private static void largeShares() {
-        part = "promise 19, large";
+        part("promise 19, large");
         WaterOffice x = new WaterOffice();
         x.aqueduct(100000);
         x.castle(0, 100000, 0);
@@ -552,7 +492,7 @@ public final class PromisesTest {
     }
 
     private static void drying() {
-        part = "promise 20";
+        part("promise 20");
         WaterOffice x = new WaterOffice();
         x.aqueduct(10);
         x.castle(0, 100, 0);
@@ -580,7 +520,7 @@ public final class PromisesTest {
     }
 
     private static void finding() {
-        part = "promise 21";
+        part("promise 21");
         WaterOffice x = new WaterOffice();
         x.aqueduct(1000);
         x.castle(0, 900, 500);
@@ -603,7 +543,7 @@ public final class PromisesTest {
     }
 
     private static void bestYears() {
-        part = "promise 22";
+        part("promise 22");
         WaterOffice x = new WaterOffice();
         x.aqueduct(100);
         x.castle(0, 100, 0);
@@ -645,7 +585,7 @@ public final class PromisesTest {
     }
 
     private static void rents() {
-        part = "promise 23";
+        part("promise 23");
         WaterOffice x = new WaterOffice();
         x.aqueduct(1000);
         x.castle(0, 1000, 0);
@@ -683,7 +623,7 @@ public final class PromisesTest {
     }
 
     private static void fining() {
-        part = "promise 24";
+        part("promise 24");
         WaterOffice x = new WaterOffice();
         x.aqueduct(100000);
         x.castle(0, 100000, 0);
@@ -718,7 +658,7 @@ public final class PromisesTest {
     }
 
     private static void counting() {
-        part = "promise 26";
+        part("promise 26");
         WaterOffice x = new WaterOffice();
         x.aqueduct(1);
         x.castle(0, 1, 1);
@@ -754,7 +694,7 @@ public final class PromisesTest {
     }
 
     private static void status() {
-        part = "promise 27";
+        part("promise 27");
         WaterOffice x = new WaterOffice();
         x.go(0);
         due("go", x.status(), -1);
@@ -826,9 +766,6 @@ public final class PromisesTest {
         fining();
         counting();
         status();
-        System.out.println(wrong == 0 ? "all answers are as due" : wrong + " answers are not as due");
-        if (wrong != 0) {
-            System.exit(1);
-        }
+        finish();
     }
 }
