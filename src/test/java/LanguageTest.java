@@ -1,10 +1,12 @@
 import java.io.IOException;
 import java.lang.reflect.Constructor;
 import java.lang.reflect.Field;
+import java.lang.reflect.InvocationTargetException;
 import java.lang.reflect.Method;
 import java.lang.reflect.Modifier;
 import java.nio.file.Files;
 import java.nio.file.Path;
+import java.util.Arrays;
 import java.util.Set;
 import java.util.TreeSet;
 import java.util.regex.Matcher;
@@ -121,6 +123,59 @@ public final class LanguageTest extends Check {
         due("512 calls make less than the room holds, not " + bytes + " bytes", bytes < 4 * 7300000L);
     }
 
+    /** No call may ever throw: each one with each choice of numbers far and near, in both a new and a full office. */
+    private static void anyArguments() throws IllegalAccessException {
+        int[] numbers = {SMALL, -1, 0, 1, 7, 11, 79, 100, 111, 200, 201, BIG};
+        for (Method m : WaterOffice.class.getDeclaredMethods()) {
+            if (!Modifier.isPublic(m.getModifiers())) {
+                continue;
+            }
+            int choices = (int) Math.pow(numbers.length, Math.min(4, m.getParameterCount()));
+            WaterOffice x = null;
+            for (int choice = 0; choice < 2 * choices; choice++) {
+                if (choice % 150 == 0 || choice == choices) {
+                    x = choice < choices ? new WaterOffice() : fullOffice();
+                }
+                Object[] arguments = new Object[m.getParameterCount()];
+                for (int i = 0, rest = choice % choices; i < arguments.length; i++, rest /= numbers.length) {
+                    arguments[i] = numbers[rest % numbers.length];
+                }
+                callOnce(x, m, arguments);
+            }
+        }
+    }
+
+    private static void callOnce(WaterOffice x, Method m, Object[] arguments) throws IllegalAccessException {
+        try {
+            m.invoke(x, arguments);
+        } catch (InvocationTargetException e) {
+            due(m.getName() + Arrays.toString(arguments) + " does not throw " + e.getCause(), false);
+        }
+    }
+
+    private static WaterOffice fullOffice() {
+        WaterOffice x = new WaterOffice();
+        for (int i = 0; i < 4; i++) {
+            x.aqueduct(100000);
+        }
+        for (int i = 0; i < 12; i++) {
+            x.castle(i < 4 ? i : 96 + i, 100000, 1000 * (i % 2));
+        }
+        for (int i = 0; i < 40; i++) {
+            x.person();
+            x.repair(i % 12, i, i + 100);
+        }
+        for (int i = 0; i < 60; i++) {
+            x.spring(i % 4, i, 0);
+            x.tap(i % 12, 10000, i, 200);
+        }
+        for (int i = 0; i < 80; i++) {
+            x.nozzle(i % 12, 1000, i % 3, i % 8);
+        }
+        laws(x, "from0rent1;".repeat(29) + "from0fine1");
+        return x;
+    }
+
     private static void methodsAreShort(String text) {
         Matcher m = Pattern.compile("(?m)^( {4,8})(?!\\s|/|\\}|private static final class)[^;=\n]*\\)[^;]*?\\{\n(?s:.*?)^\\1\\}$").matcher(text);
         int methods = 0;
@@ -131,10 +186,11 @@ public final class LanguageTest extends Check {
         due("methods were found: " + methods, methods > 26);
     }
 
-    public static void main(String[] args) throws IOException {
+    public static void main(String[] args) throws IOException, IllegalAccessException {
         face();
         text();
         room();
+        anyArguments();
         System.out.println(wrong == 0 ? "all rules hold" : wrong + " rules do not hold");
         if (wrong != 0) {
             System.exit(1);
