@@ -239,7 +239,7 @@ public final class WaterOffice {
         if (!nozzles.has(nozzle) || !isYear(year) || !isYear(known)) {
             return NONE;
         }
-        flows.run(year, known, NONE);
+        flows.run(year, known);
         return flows.got[nozzle];
     }
 
@@ -248,7 +248,7 @@ public final class WaterOffice {
                 || !isWithin(what, 0, AMOUNTS - 1)) {
             return NONE;
         }
-        flows.run(year, known, NONE);
+        flows.run(year, known);
         return flows.amount[what][castle];
     }
 
@@ -256,7 +256,7 @@ public final class WaterOffice {
         if (!isQuarter(quarter) || !isYear(year) || !isYear(known)) {
             return NONE;
         }
-        flows.run(year, known, NONE);
+        flows.run(year, known);
         flows.weighQuarters();
         return flows.isDry(quarter) ? 1 : 0;
     }
@@ -265,7 +265,7 @@ public final class WaterOffice {
         if (!castles.has(castle) || !isYear(year)) {
             return NONE;
         }
-        flows.run(year, now, NONE);
+        flows.run(year, now);
         return flows.leastMissing(castle);
     }
 
@@ -355,7 +355,8 @@ public final class WaterOffice {
     /** A year of a repair is as dry whichever year the repair began in, so each is looked at once. */
     private void countDryQuarters(int castle, int first, int last) {
         for (int year = first; year <= last; year++) {
-            flows.run(year, now, castle);
+            flows.prepare(year, now);
+            flows.flow(castle);
             flows.weighQuarters();
             dryQuarters[year] = flows.countDry();
         }
@@ -956,10 +957,9 @@ public final class WaterOffice {
             this.repairs = repairs;
         }
 
-        /** The castle "mended" has its pipe in a repair that is only thought of; NONE without. */
-        void run(int ofYear, int known, int mended) {
+        void run(int ofYear, int known) {
             prepare(ofYear, known);
-            flow(mended);
+            flow(NONE);
         }
 
         /** What isLiving and flow need to know of the laws and the deaths. */
@@ -969,6 +969,7 @@ public final class WaterOffice {
             deaths.settle(known);
         }
 
+        /** The castle "mended" has its pipe in a repair that is only thought of; NONE without. */
         void flow(int mended) {
             springs.settle(year);
             chooseServed();
